@@ -439,10 +439,14 @@ public final class TideVault {
         if (thingKind == NOTHING) {
             return true;
         }
-        if (rowKind == INT_ROWS) {
-            return thingKind == INTS;
+        switch (rowKind) {
+            case PEGS:
+                return thingKind == PEG || thingKind == TALL_PEG;
+            case TALL_PEGS:
+                return thingKind == TALL_PEG;
+            default:
+                return thingKind == INTS;
         }
-        return thingKind == TALL_PEG || thingKind == PEG && rowKind == PEGS;
     }
 
     /** All items of a row have its kind, so the first item faults if any does. */

@@ -249,7 +249,7 @@ public final class PromiseTest {
     private static void set() {
         promise = 7;
         long[] values = {0, 1, -1, 256, 255, 128, -129, 65535, 65536, 32768, 1L << 31, 1L << 32, -(1L << 31) - 1,
-            (1L << 24) + 1, (1L << 53) + 1, Long.MAX_VALUE, Long.MIN_VALUE, 7, -7};
+            (1L << 24) + 1, (1L << 53) + 1, (1L << 60) + (1L << 36) + 1, Long.MAX_VALUE, Long.MIN_VALUE, 7, -7};
         TideVault x = withNumberRows(1);
         for (int as = 1; as <= 8; as++) {
             for (long v : values) {
@@ -643,6 +643,12 @@ public final class PromiseTest {
         x.set(7, 0, 5, -1);
         x.set(7, 2, 5, 0);
         due("0.0 from both sides", x.sum(7, false), 0);
+        x.fill(7, 5, 0);
+        x.set(7, 1, 6, (1L << 53) - 1);
+        due("to the last bit", x.sum(7, false), bits(9007199254740991.0));
+        x.set(6, 0, 7, (1L << 24) - 1);
+        x.set(6, 2, 7, -1);
+        due("FLOATS to the last bit", x.sum(6, false), bits((16777215 - 1) / 8.0));
         sumWrong();
     }
 
