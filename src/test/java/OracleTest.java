@@ -423,13 +423,14 @@ public final class OracleTest {
         c.a = near(0, 9);
         c.v = value();
         c.flag = from(0, 1) == 1;
-        c.b = near(0, 4);
+        int farthest = from(0, 4) == 0 ? 12 : 4;
+        c.b = near(0, farthest);
         c.c = near(1, 8);
-        c.d = near(0, 4);
+        c.d = near(0, farthest);
         c.e = from(0, 3) == 0 ? near(0, 12) : near(0, 4);
         c.f = from(0, 2) == 0 ? 8 : near(1, 8);
         switch (c.name) {
-            case MAKE: c.b = near(1, 13); c.c = near(0, 6); break;
+            case MAKE: c.b = near(1, 13); c.c = near(0, from(0, 3) == 0 ? 12 : 6); break;
             case SHARE: case DIFFER: c.b = near(0, 9); break;
             case GRIP: c.a = near(0, 13); if (c.a >= 12 && from(0, 9) > 0) { c.v = from(0, 12); } break;
             case HAND: c.a = near(0, 1); break;
@@ -452,7 +453,7 @@ public final class OracleTest {
                 c.name = Name.MAKE;
                 c.a = n;
                 c.b = from(1, 11);
-                c.c = from(0, 6);
+                c.c = from(0, from(0, 3) == 0 ? 12 : 6);
             }
             long want = oracle.answer(c);
             long got = answer(x, c);
@@ -464,7 +465,18 @@ public final class OracleTest {
         return true;
     }
 
+    /** What calls answer after the 512th is free, but none may throw, and a throw here ends the test. */
+    private static void callOnAndOn() {
+        TideVault x = new TideVault();
+        Call c = new Call();
+        for (int n = 0; n < CALLS * 400; n++) {
+            draw(c);
+            answer(x, c);
+        }
+    }
+
     public static void main(String[] args) {
+        callOnAndOn();
         int wrong = 0;
         for (int run = 0; run < RUNS; run++) {
             if (!runAgrees(run)) {
